@@ -1,0 +1,190 @@
+/** Promise 3: SUMS, TESTS (section 2) and CHANGES without triggers and references (section 3). */
+final class ChangesTest {
+    public static void main(String[] args) {
+        sums();
+        wraps();
+        tests();
+        threeWays();
+        inserts();
+        updates();
+        deletes();
+        divisions();
+        room();
+        Bench.finish();
+    }
+
+    private static void sum(long due, String sum) {
+        Bench b = Bench.with("table a (x)");
+        b.does("insert a (" + sum + ")");
+        Bench.is(sum, b.store.value(0, 0, 0), due);
+    }
+
+    private static void sums() {
+        sum(7, "1 + 2 * 3");
+        sum(9, "(1 + 2) * 3");
+        sum(-4, "1 - 2 - 3");
+        sum(2, "1 - (2 - 3)");
+        sum(1, "8 / 4 / 2");
+        sum(4, "8 / (4 / 2)");
+        sum(6, "8 / 4 * 3");
+        sum(-3, "- 7 / 2");
+        sum(-3, "7 / -2");
+        sum(3, "-7 / -2");
+        sum(5, "--5");
+        sum(-6, "- 2 * 3");
+        sum(0, "0 / 5");
+        sum(CascadeStore.NULL, "null");
+        sum(CascadeStore.NULL, "- null");
+        sum(CascadeStore.NULL, "1 + null");
+        sum(CascadeStore.NULL, "null * 0");
+        sum(CascadeStore.NULL, "null - 1");
+        sum(CascadeStore.NULL, "null / 0");
+        sum(CascadeStore.NULL, "1 / null");
+        sum(CascadeStore.NULL, "default");
+    }
+
+    private static void wraps() {
+        String most = "(999999999 * 2 + 147483649)";
+        sum(Integer.MAX_VALUE, most);
+        sum(Integer.MIN_VALUE, most + " + 1");
+        sum(Integer.MIN_VALUE, "-" + most + " - 1");
+        sum(Integer.MAX_VALUE, "-" + most + " - 2");
+        sum(Integer.MIN_VALUE, "-(" + most + " + 1)");
+        sum(Integer.MIN_VALUE, "(" + most + " + 1) / -1");
+        sum(999999999 * 999999999, "999999999 * 999999999");
+        sum(1, most + " * " + most);
+    }
+
+    /** Of rows with x from -1 to 1 and one that has NULL, those are told that are deleted by the test. */
+    private static void test(String due, String test) {
+        Bench b = Bench.with("table a (x)", "insert a (-1)", "insert a (0)", "insert a (1)", "insert a (null)");
+        b.does("table b (x)", "trigger t after delete on a do insert b (old.x)");
+        b.does("delete a where " + test);
+        StringBuilder gone = new StringBuilder();
+        for (int k = 0; k < b.store.table(1, 1); k++) {
+            long x = b.store.value(1, k, 0);
+            gone.append(k == 0 ? "" : " ").append(x == CascadeStore.NULL ? "null" : String.valueOf(x));
+        }
+        Bench.isText(test, gone.toString(), due);
+    }
+
+    private static void tests() {
+        test("0", "x = 0");
+        test("-1 1", "x # 0");
+        test("-1", "x < 0");
+        test("-1 0", "x <= 0");
+        test("1", "x > 0");
+        test("0 1", "x >= 0");
+        test("null", "x is null");
+        test("-1 0 1", "x is some");
+        test("", "x = null");
+        test("", "x # null");
+        test("", "null >= x");
+        test("null", "x + 1 is null");
+        test("-1 1", "not x = 0");
+        test("0", "not x # 0");
+        test("-1 0 1 null", "1 = 1");
+        test("-1 1", "x = 1 or x = -1");
+        test("0", "x > -1 and x < 1");
+        test("-1 1", "x = -1 or x > -1 and x # 0");
+        test("", "[x = -1 or x > -1] and x # x");
+        test("0 1", "[x = -1 or x > -1] and x # -1");
+        test("0 1", "not x = -1 and x = x");
+        test("-1 0 1 null", "not [x = -1 and x # x]  or x is null");
+    }
+
+    private static void threeWays() {
+        String yes = "1 = 1";
+        String no = "1 = 0";
+        String open = "1 = null";
+        String[] ways = {no, yes, open};
+        int[] and = {0, 0, 0, 0, 1, 2, 0, 2, 2};
+        int[] or = {0, 1, 2, 1, 1, 1, 2, 1, 2};
+        int[] not = {1, 0, 2};
+        for (int i = 0; i < 9; i++) {
+            way(and[i], "[" + ways[i / 3] + " and " + ways[i % 3] + "]");
+            way(or[i], "[" + ways[i / 3] + " or " + ways[i % 3] + "]");
+        }
+        for (int i = 0; i < 3; i++) {
+            way(not[i], "not " + ways[i]);
+        }
+    }
+
+    private static void way(int due, String test) {
+        Bench b = Bench.with("table a (x)", "insert a (1)");
+        b.does("delete a where " + test);
+        boolean isYes = b.store.table(0, 1) == 0;
+        b.say("insert a (1)");
+        b.does("delete a where not " + test);
+        boolean isNo = b.store.table(0, 1) == 0;
+        Bench.is(test, isYes ? 1 : isNo ? 0 : 2, due);
+    }
+
+    private static void inserts() {
+        Bench b = Bench.with("table a (x default 5, y default - 6, z)");
+        b.does("insert a (default, default, default)", "insert a (1, default, null)", "insert a (null, 2, 1 + 1)");
+        b.holds("a", "1: 5 -6 null, 2: 1 -6 null, 3: null 2 2");
+        Bench.is("rows more", b.store.told(7), 1);
+        b.steps(1, 1);
+    }
+
+    private static void updates() {
+        Bench b = Bench.with("table a (x, y)", "insert a (1, 2)", "insert a (3, 4)", "insert a (null, 6)");
+        b.does("update a set x = y, y = x");
+        b.holds("a", "1: 2 1, 2: 4 3, 3: 6 null");
+        b.steps(3, 1);
+        b.does("update a set y = x * 10 where y < 3");
+        b.holds("a", "1: 2 20, 2: 4 3, 3: 6 null");
+        b.steps(1, 1);
+        b.does("update a set x = 0 where x > 100");
+        b.steps(0, 0);
+        Bench.is("rows more", b.store.told(7), 0);
+        b.does("update a set x = x + 1 where x < 5");
+        b.holds("a", "1: 3 20, 2: 5 3, 3: 6 null");
+    }
+
+    private static void deletes() {
+        Bench b = Bench.with("table a (x)", "insert a (1)", "insert a (2)", "insert a (3)");
+        b.does("delete a where x = 2");
+        b.holds("a", "1: 1, 3: 3");
+        b.does("insert a (4)");
+        b.holds("a", "1: 1, 3: 3, 4: 4");
+        b.does("delete a");
+        Bench.is("rows more", b.store.told(7), -3);
+        b.steps(3, 1);
+        b.does("insert a (5)");
+        b.holds("a", "5: 5");
+    }
+
+    private static void divisions() {
+        Bench b = Bench.with("table a (x, y)", "insert a (1, 1)", "insert a (2, 0)", "insert a (3, null)");
+        String state = b.state();
+        b.ends(4, "insert a (1 / 0, 1)");
+        b.steps(0, 0);
+        b.ends(4, "update a set x = x / y");
+        b.steps(1, 1);
+        b.ends(4, "delete a where 1 = 1 or x / y = 1");
+        b.ends(4, "delete a where x = 3 and 1 / (y * 0) = 1 or x / y is null");
+        Bench.isText("state after divisions by 0", b.state(), state);
+        for (int what = 0; what <= 4; what++) {
+            Bench.is("told(" + what + ")", b.store.told(what), CascadeStore.NONE);
+        }
+        b.does("update a set x = x / y where y # 0");
+        b.does("table c (x, check 1 / x > 0)", "insert c (0)", "insert c (null)");
+        b.breaks(0, 3, "insert c (-1)");
+    }
+
+    private static void room() {
+        Bench b = Bench.with("table a (x)");
+        for (int i = 0; i < 40; i++) {
+            b.does("insert a (" + i + ")");
+        }
+        b.ends(6, "insert a (40)");
+        b.steps(1, 1);
+        Bench.is("rows more", b.store.told(7), 0);
+        Bench.is("rows", b.store.table(0, 1), 40);
+        Bench.is("the next ROWID", b.store.table(0, 2), 41);
+        b.does("delete a where x = 0", "insert a (41)");
+        Bench.is("the last one's ROWID", b.store.value(0, 39, CascadeStore.NONE), 41);
+    }
+}
