@@ -72,13 +72,14 @@ public final class CascadeStore {
     public int run() {
         int rowsBefore = store.rows.total();
         engine.startAnew();
-        int end = FAULT;
-        if (isUnderstood()) {
-            end = isPossible() ? carryOut() : NOT_NOW;
-        }
-        if (end == FAULT || end == NOT_NOW) {
+        boolean understood = false;
+        try {
+            reader.read();
+            understood = true;
+        } catch (IllegalStateException fault) {
             reader.undo();
         }
+        int end = understood ? carryOut() : FAULT;
         tape.length = 0;
         note(end, store.rows.total() - rowsBefore);
         return end;
@@ -234,15 +235,6 @@ public final class CascadeStore {
         Arrays.fill(answers, 0, 5, NONE);
     }
 
-    private boolean isUnderstood() {
-        try {
-            reader.read();
-            return true;
-        } catch (IllegalStateException fault) {
-            return false;
-        }
-    }
-
     private boolean isPossible() {
         switch (reader.verb) {
             case TABLE:
@@ -263,6 +255,10 @@ public final class CascadeStore {
     }
 
     private int carryOut() {
+        if (!isPossible()) {
+            reader.undo();
+            return NOT_NOW;
+        }
         switch (reader.verb) {
             case TRIGGER:
                 store.addTrigger(reader.number, reader.trigger);
@@ -282,7 +278,7 @@ public final class CascadeStore {
                 store.begin();
                 return DONE;
             case COMMIT:
-                return commit();
+                return store.afterCommit(engine.look(~0));
             case BACK:
                 if (reader.number == NONE) {
                     store.back();
@@ -297,28 +293,10 @@ public final class CascadeStore {
                 store.waiting |= reader.rules & store.rulesThatMayWait();
                 return DONE;
             case NOW:
-                return lookNow();
+                return store.afterNow(reader.rules, engine.look(reader.rules));
             default:
                 return DONE;
         }
-    }
-
-    private int commit() {
-        int end = engine.look(~0);
-        if (end == DONE) {
-            store.endTransaction();
-        } else {
-            store.back();
-        }
-        return end;
-    }
-
-    private int lookNow() {
-        int end = engine.look(reader.rules);
-        if (end == DONE) {
-            store.waiting &= ~reader.rules;
-        }
-        return end;
     }
 
     private void note(int end, int moreRows) {
@@ -405,18 +383,24 @@ public final class CascadeStore {
                 places[i] = at;
                 at = behind;
             }
-            show(0);
+            now = NONE;
+            next();
         }
 
         void next() {
-            show(now + 1);
+            if (now + 1 >= 0 && now + 1 < tokens.length) {
+                now++;
+                token = tokens[now];
+                place = places[now];
+                value = values[now];
+            }
         }
 
         boolean skip(Token wanted) {
             if (token != wanted) {
                 return false;
             }
-            show(now + 1);
+            next();
             return true;
         }
 
@@ -424,23 +408,13 @@ public final class CascadeStore {
             if (token != wanted) {
                 refuse(MISPLACED);
             }
-            show(now + 1);
+            next();
         }
 
         void refuse(int code) {
             fault = token == Token.BAD ? BAD_TEXT : code;
             faultPlace = place;
             throw new IllegalStateException("a fault in the text");
-        }
-
-        private void show(int which) {
-            if (which < 0 || which >= tokens.length) {
-                return;
-            }
-            now = which;
-            token = tokens[which];
-            place = places[which];
-            value = values[which];
         }
 
         private int behindBlanks(int from) {
@@ -740,32 +714,30 @@ public final class CascadeStore {
                 open--;
             } else {
                 readSum();
-                readComparison();
+                int operation = comparisonMeant();
+                spendNode();
+                tape.next();
+                if (operation == Formula.IS_NULL) {
+                    readNullOrSome();
+                } else {
+                    readSum();
+                    emit(operation, 0);
+                }
             }
         }
 
-        private void readComparison() {
-            if (tape.token == Token.IS) {
-                spendNode();
-                tape.next();
-                emit(tape.token == Token.NULL ? Formula.IS_NULL : Formula.IS_SOME, 0);
-                if (!tape.skip(Token.NULL)) {
-                    tape.expect(Token.SOME);
-                }
-                return;
+        private void readNullOrSome() {
+            boolean isNull = tape.skip(Token.NULL);
+            if (!isNull) {
+                tape.expect(Token.SOME);
             }
-            int operation = comparisonMeant();
-            if (operation == NONE) {
-                tape.refuse(MISPLACED);
-            }
-            spendNode();
-            tape.next();
-            readSum();
-            emit(operation, 0);
+            emit(isNull ? Formula.IS_NULL : Formula.IS_SOME, 0);
         }
 
         private int comparisonMeant() {
             switch (tape.token) {
+                case IS:
+                    return Formula.IS_NULL;
                 case EQUAL:
                     return Formula.EQUAL;
                 case UNLIKE:
@@ -779,6 +751,7 @@ public final class CascadeStore {
                 case AT_LEAST:
                     return Formula.AT_LEAST;
                 default:
+                    tape.refuse(MISPLACED);
                     return NONE;
             }
         }
@@ -806,68 +779,69 @@ public final class CascadeStore {
         }
 
         private void readFactor() {
+            int operation;
+            int operand = 0;
             switch (tape.token) {
                 case NUMBER:
-                    readLeaf(Formula.NUMBER, (int) tape.value);
+                    operation = Formula.NUMBER;
+                    operand = (int) tape.value;
                     break;
                 case NULL:
-                    readLeaf(Formula.NOTHING, 0);
+                    operation = Formula.NOTHING;
                     break;
                 case NAME:
-                    readLeaf(Formula.COLUMN, columnAlone());
+                    operation = Formula.COLUMN;
+                    operand = columnOf(rowTable);
                     break;
                 case NEW:
-                    readOfTrigger(Formula.NEW, DELETE);
-                    break;
                 case OLD:
-                    readOfTrigger(Formula.OLD, INSERT);
-                    break;
-                case MINUS:
-                    goIn();
-                    spendNode();
+                    operation = tape.token == Token.NEW ? Formula.NEW : Formula.OLD;
+                    refuseWithoutRow(operation == Formula.NEW ? DELETE : INSERT);
                     tape.next();
-                    readFactor();
-                    emit(Formula.NEGATE, 0);
-                    open--;
-                    break;
-                case OPEN:
-                    goIn();
-                    tape.next();
-                    readSum();
-                    tape.expect(Token.CLOSE);
-                    open--;
+                    tape.expect(Token.DOT);
+                    operand = columnOf(triggerTable);
                     break;
                 default:
-                    tape.refuse(MISPLACED);
+                    readInner();
+                    return;
             }
-        }
-
-        private void readLeaf(int operation, int operand) {
             spendNode();
             emit(operation, operand);
             tape.next();
         }
 
-        private int columnAlone() {
-            if (rowTable == NONE) {
-                tape.refuse(OUT_OF_PLACE);
+        private void readInner() {
+            if (tape.token == Token.MINUS) {
+                goIn();
+                spendNode();
+                tape.next();
+                readFactor();
+                emit(Formula.NEGATE, 0);
+                open--;
+            } else {
+                if (tape.token == Token.OPEN) {
+                    goIn();
+                }
+                tape.expect(Token.OPEN);
+                readSum();
+                tape.expect(Token.CLOSE);
+                open--;
             }
-            return columnOf(rowTable);
         }
 
-        private void readOfTrigger(int operation, int eventWithout) {
+        private void refuseWithoutRow(int eventWithout) {
             if (triggerTable == NONE || event == eventWithout) {
                 tape.refuse(OUT_OF_PLACE);
             }
-            tape.next();
-            tape.expect(Token.DOT);
-            if (tape.token != Token.NAME) {
-                tape.refuse(MISPLACED);
-            }
-            readLeaf(operation, columnOf(triggerTable));
         }
 
         private int columnOf(int table) {
+            if (tape.token != Token.NAME) {
+                tape.refuse(MISPLACED);
+            }
+            if (table == NONE) {
+                tape.refuse(OUT_OF_PLACE);
+            }
             int column = store.columnNamed(table, tape.value);
             if (column == NONE) {
                 tape.refuse(NOT_THERE);
@@ -1015,7 +989,9 @@ public final class CascadeStore {
                     readKey(Rule.UNIQUE);
                     break;
                 case CHECK:
-                    readCheck();
+                    Rule rule = addRule(Rule.CHECK);
+                    rule.check = formulas.wholeTest();
+                    rule.mayWait = tape.skip(Token.LATE);
                     break;
                 case REFER:
                     readRefer();
@@ -1065,12 +1041,6 @@ public final class CascadeStore {
             tape.expect(Token.OPEN);
             rule.size = readNames(newTable, rule.columns);
             tape.expect(Token.CLOSE);
-            rule.mayWait = tape.skip(Token.LATE);
-        }
-
-        private void readCheck() {
-            Rule rule = addRule(Rule.CHECK);
-            rule.check = formulas.wholeTest();
             rule.mayWait = tape.skip(Token.LATE);
         }
 
@@ -1170,24 +1140,19 @@ public final class CascadeStore {
             int event = readEvent();
             tape.expect(Token.ON);
             int table = readTableName();
-            trigger = new Trigger(triggerName, table, time, event);
             formulas.triggerTable = table;
             formulas.event = event;
-            if (tape.skip(Token.WHEN)) {
-                trigger.when = formulas.wholeTest();
-            }
+            Formula when = tape.skip(Token.WHEN) ? formulas.wholeTest() : null;
             tape.expect(Token.DO);
-            switch (tape.token) {
-                case LET:
-                    trigger.act = readLet(trigger);
-                    break;
-                case RAISE:
-                    trigger.act = readRaise();
-                    break;
-                default:
-                    trigger.act = readChange();
-                    break;
+            Act told;
+            if (tape.token == Token.LET) {
+                told = readLet(table, time, event);
+            } else if (tape.token == Token.RAISE) {
+                told = readRaise();
+            } else {
+                told = readChange();
             }
+            trigger = new Trigger(triggerName, table, time, event, when, told);
         }
 
         private int readEvent() {
@@ -1212,13 +1177,13 @@ public final class CascadeStore {
             }
         }
 
-        private Act readLet(Trigger of) {
-            if (of.time == AFTER || of.event == DELETE) {
+        private Act readLet(int table, int time, int event) {
+            if (time == AFTER || event == DELETE) {
                 tape.refuse(OUT_OF_PLACE);
             }
             tape.next();
             Act let = new Act(LET, NONE);
-            let.columns[0] = readColumnName(of.table, let.columns, 0);
+            let.columns[0] = readColumnName(table, let.columns, 0);
             tape.expect(Token.EQUAL);
             let.sums[0] = formulas.wholeSum();
             let.size = 1;
@@ -1404,26 +1369,21 @@ public final class CascadeStore {
 
         int firstBreaker(Rows rows) {
             for (int k = 0; k < rows.sizeOf(table); k++) {
-                if (isBrokenBy(rows, k)) {
+                boolean isBroken = hasNull(rows, k);
+                if (kind == PRIMARY) {
+                    isBroken = isBroken || isThere(rows, k, table, columns, k);
+                } else if (kind == UNIQUE) {
+                    isBroken = !isBroken && isThere(rows, k, table, columns, k);
+                } else if (kind == REFER) {
+                    isBroken = !isBroken && !isThere(rows, k, target, targets, rows.sizeOf(target));
+                } else if (kind == CHECK && check != null) {
+                    isBroken = check.work(rows.cells, Rows.placeOf(table, k), null, null) == Formula.NO;
+                }
+                if (isBroken) {
                     return rows.rowId(table, k);
                 }
             }
             return NONE;
-        }
-
-        private boolean isBrokenBy(Rows rows, int k) {
-            switch (kind) {
-                case PRIMARY:
-                    return hasNull(rows, k) || isThere(rows, k, table, columns, k);
-                case UNIQUE:
-                    return !hasNull(rows, k) && isThere(rows, k, table, columns, k);
-                case CHECK:
-                    return check != null && check.work(rows.cells, Rows.placeOf(table, k), null, null) == Formula.NO;
-                case REFER:
-                    return !hasNull(rows, k) && !isThere(rows, k, target, targets, rows.sizeOf(target));
-                default:
-                    return hasNull(rows, k);
-            }
         }
 
         private boolean hasNull(Rows rows, int k) {
@@ -1503,26 +1463,24 @@ public final class CascadeStore {
         private final int table;
         private final int time;
         private final int event;
-        private Formula when;
-        private Act act;
+        private final Formula when;
+        private final Act act;
 
-        Trigger(long name, int table, int time, int event) {
+        Trigger(long name, int table, int time, int event, Formula when, Act act) {
             this.name = name;
             this.table = table;
             this.time = time;
             this.event = event;
+            this.when = when;
+            this.act = act;
         }
 
         int nodes() {
-            return (when == null ? 0 : when.nodes()) + (act == null ? 0 : act.nodes());
+            return (when == null ? 0 : when.nodes()) + act.nodes();
         }
 
         boolean isFor(int of, int at, int what) {
-            return act != null && table == of && time == at && event == what;
-        }
-
-        boolean isChanging(int other) {
-            return act != null && act.table == other;
+            return table == of && time == at && event == what;
         }
     }
 
@@ -1550,7 +1508,7 @@ public final class CascadeStore {
         }
 
         boolean hasRow(int table, int k) {
-            return k >= 0 && k < sizeOf(table) && k < MOST_ROWS;
+            return table >= 0 && table < MOST_TABLES && k >= 0 && k < sizes[table] && k < MOST_ROWS;
         }
 
         int rowId(int table, int k) {
@@ -1561,7 +1519,7 @@ public final class CascadeStore {
             if (!hasRow(table, k) || column < 0 || column >= MOST_COLUMNS) {
                 return NULL;
             }
-            return cells[placeOf(table, k) + column];
+            return cells[(table * MOST_ROWS + k) * MOST_COLUMNS + column];
         }
 
         int rowWith(int table, int id) {
@@ -1660,7 +1618,7 @@ public final class CascadeStore {
         }
 
         boolean hasColumn(int table, int column) {
-            return column >= 0 && column < widthOf(table) && column < MOST_COLUMNS;
+            return table >= 0 && table < MOST_TABLES && column >= 0 && column < widths[table] && column < MOST_COLUMNS;
         }
 
         int widthOf(int table) {
@@ -1685,8 +1643,11 @@ public final class CascadeStore {
         }
 
         int columnNamed(int table, long name) {
-            for (int column = 0; column < widthOf(table); column++) {
-                if (hasColumn(table, column) && columnNames[table * MOST_COLUMNS + column] == name) {
+            if (table < 0 || table >= MOST_TABLES) {
+                return NONE;
+            }
+            for (int column = 0; column < widths[table] && column < MOST_COLUMNS; column++) {
+                if (columnNames[table * MOST_COLUMNS + column] == name) {
                     return column;
                 }
             }
@@ -1777,7 +1738,6 @@ public final class CascadeStore {
             int table = freeTable();
             if (table != NONE) {
                 tableNames[table] = name;
-                widths[table] = 0;
             }
             return table;
         }
@@ -1839,7 +1799,7 @@ public final class CascadeStore {
                 }
             }
             for (int t = 0; t < MOST_TRIGGERS; t++) {
-                if (triggers[t] != null && triggers[t].table != table && triggers[t].isChanging(table)) {
+                if (triggers[t] != null && triggers[t].table != table && triggers[t].act.table == table) {
                     return false;
                 }
             }
@@ -1851,6 +1811,7 @@ public final class CascadeStore {
                 return;
             }
             tableNames[table] = 0;
+            widths[table] = 0;
             rows.empty(table);
             for (int r = 0; r < MOST_RULES; r++) {
                 if (rules[r] != null && rules[r].table == table) {
@@ -1883,6 +1844,22 @@ public final class CascadeStore {
                 rows.copyFrom(atBegin);
             }
             endTransaction();
+        }
+
+        int afterCommit(int end) {
+            if (end == DONE) {
+                endTransaction();
+            } else {
+                back();
+            }
+            return end;
+        }
+
+        int afterNow(int named, int end) {
+            if (end == DONE) {
+                waiting &= ~named;
+            }
+            return end;
         }
 
         void endTransaction() {
@@ -1953,9 +1930,13 @@ public final class CascadeStore {
 
         int change(Act act) {
             before.copyFrom(rows);
-            if (isPerformed(act)) {
-                end = look(~store.waiting);
+            try {
+                perform(act, 0);
+            } catch (IllegalStateException ended) {
+                rows.copyFrom(before);
+                return end;
             }
+            end = look(~store.waiting);
             if (end != DONE) {
                 rows.copyFrom(before);
             }
@@ -1974,15 +1955,6 @@ public final class CascadeStore {
                 }
             }
             return DONE;
-        }
-
-        private boolean isPerformed(Act act) {
-            try {
-                perform(act, 0);
-                return true;
-            } catch (IllegalStateException ended) {
-                return false;
-            }
         }
 
         private void stop(int code) {
