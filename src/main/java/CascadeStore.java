@@ -1186,7 +1186,6 @@ public final class CascadeStore {
             let.columns[0] = readColumnName(table, let.columns, 0);
             tape.expect(Token.EQUAL);
             let.sums[0] = formulas.wholeSum();
-            let.size = 1;
             return let;
         }
 
@@ -1923,7 +1922,6 @@ public final class CascadeStore {
         }
 
         void startAnew() {
-            end = DONE;
             begun = 0;
             deepest = 0;
         }

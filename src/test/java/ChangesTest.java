@@ -172,6 +172,11 @@ final class ChangesTest {
         b.does("update a set x = x / y where y # 0");
         b.does("table c (x, check 1 / x > 0)", "insert c (0)", "insert c (null)");
         b.breaks(0, 3, "insert c (-1)");
+        b.does("table d (x, check 1 / x is some)", "insert d (1)");
+        b.breaks(1, 2, "insert d (0)");
+        b.breaks(1, 2, "insert d (null)");
+        b.does("table e (x, check x / 0 is null and x > 5)", "insert e (6)");
+        b.breaks(2, 2, "insert e (5)");
     }
 
     private static void room() {
@@ -186,5 +191,17 @@ final class ChangesTest {
         Bench.is("the next ROWID", b.store.table(0, 2), 41);
         b.does("delete a where x = 0", "insert a (41)");
         Bench.is("the last one's ROWID", b.store.value(0, 39, CascadeStore.NONE), 41);
+
+        Bench last = Bench.with("table a (x)", "table b (x)", "table c (x)", "table d (x)", "table e (x)",
+                "table f (p, q, r, s, t, u)");
+        for (int i = 0; i < 40; i++) {
+            last.does("insert f (" + i + ", 1, 2, 3, 4, 5)");
+        }
+        last.does("delete f where p = 0", "delete f where p = 39", "delete f where p = 20");
+        Bench.is("rows", last.store.table(5, 1), 37);
+        Bench.is("the last one's last value", last.store.value(5, 36, 5), 5);
+        Bench.is("the last one's first value", last.store.value(5, 36, 0), 38);
+        last.does("delete f");
+        last.holds("f", "");
     }
 }

@@ -2,6 +2,7 @@
 final class FaultsTest {
     public static void main(String[] args) {
         tokens();
+        leftovers();
         grammar();
         formulas();
         namesThere();
@@ -34,6 +35,21 @@ final class FaultsTest {
         b.fault(2, "update a set x = 1 where x >^> 2");
         b.fault(2, "^a");
         b.fault(2, "^7");
+        b.fault(2, "^" + "(".repeat(600));
+        b.does("delete a where x = 1" + "+1".repeat(290));
+        b.fault(2, "delete a where x =1" + "+1".repeat(290) + "+^");
+    }
+
+    /** What an earlier, longer text left behind on the tape is no part of a shorter one. */
+    private static void leftovers() {
+        Bench b = Bench.with("table ab (x)", "insert ab (12)");
+        b.fault(4, "drop table ^a");
+        b.does("update ab set x = 1 where x <= 12");
+        b.fault(2, "update ab set x = 1 where x <^");
+        b.does("begin", "mark m23", "update ab set x = 123456789", "update ab set x = 12");
+        b.holds("ab", "1: 12");
+        b.does("mark m2", "mark m");
+        Bench.is("marks", b.store.count(3), 3);
     }
 
     private static void grammar() {
@@ -133,6 +149,10 @@ final class FaultsTest {
         b.fault(3, "update a set x = 1, ^x = 2");
         b.fault(3, "update a set x = 1, y = 2, ^y = 2");
         b.fault(3, "table b (p, q, r, s, t, u, unique (p, q, r, s, t, u, ^p))");
+        b.does("table b (p, q, r, s, t, u)");
+        b.fault(3, "update b set p = 1, q = 2, r = 3, s = 4, t = 5, u = 6, ^p = 7");
+        b.fault(2, "update b set p = 1, q = 2, r = 3, s = 4, t = 5, u = 6, ^where p = 7");
+        b.does("update b set p = 1, q = 2, r = 3, s = 4, t = 5, u = 6", "drop table b");
         b.does("table t (t)", "trigger a after insert on t do raise 1");
     }
 

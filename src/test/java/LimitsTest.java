@@ -85,6 +85,7 @@ final class LimitsTest {
         b.does("insert a (-1 - -1 - -1 - -1 - -1 - -1 - -1 - -1 - -1 - -1 - -1 - -1 - -1)");
         b.does("delete a where not x = 1 and not x = 1 and not x = 1 and not x = 1 and not x = 1 and not x = 1 "
                 + "and not x = 1 and not x = 1 and not x = 1 and not x = 1 and not x = 1 and not x = 1");
+        b.does("delete a where " + Bench.repeated("[x = 1]", 12, " or "));
         b.does("insert a ((1) + (1) + (1) + (1) + (1) + (1) + (1) + (1) + (1) + (1) + (1) + (1))");
         b.does("table c (y, check " + ten + "1" + "))))))))))" + " = y)");
     }
@@ -121,6 +122,9 @@ final class LimitsTest {
         b.fault(6, "trigger t before insert on c when new.x = 1 do let x = ^1");
         b.fault(6, "trigger t before insert on c do let x = new.x + - new.^x");
         b.fault(6, "trigger t before insert on c do let x = 1 + 1 ^+ 1");
+        b.fault(6, "trigger t before insert on c do let x = 1 * 1 ^* 1");
+        b.fault(6, "trigger t before insert on c do let x = - - - ^1");
+        b.fault(6, "trigger t before insert on c when new.x is null and new.^x is null do raise 1");
         b.does("trigger t before insert on c do let x = 1 + 1");
         Bench.is("nodes at the most", b.store.count(4), 400);
         b.fault(6, "trigger s before insert on c do let x = ^null");

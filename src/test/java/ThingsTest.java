@@ -159,8 +159,10 @@ final class ThingsTest {
         b.ends(7, "back");
         b.does("table a (x, y)", "insert a (default, default)");
         b.holds("a", "1: null null");
+        b.does("table b (x, unique (x))", "table c (x)", "table d (x)", "table e (x)", "table f (x)", "insert f (1)");
         b.store.clear();
         b.store.clear();
+        Bench.isText("state after two more", b.state(), new Bench().state());
         b.does("table z (x)", "begin", "insert z (1)", "mark q", "commit");
         b.holds("z", "1: 1");
     }
