@@ -12,6 +12,7 @@ final class ReferencesTest {
         chains();
         touchedColumnsAlone();
         whatChangedMeanwhile();
+        fullTable();
         Bench.finish();
     }
 
@@ -171,6 +172,20 @@ final class ReferencesTest {
         b.does("update a set y = 8");
         b.holds("b", "1: 7 8");
         b.holds("c", "1: null");
+    }
+
+    private static void fullTable() {
+        Bench b = Bench.with("table a (id, unique (id))", "table b (up, refer (up) to a (id) delete cascade update cascade)",
+                "insert a (1)");
+        for (int i = 0; i < 40; i++) {
+            b.does("insert b (1)");
+        }
+        b.does("update a set id = 2");
+        b.steps(41, 2);
+        Bench.is("the last one's value", b.store.value(1, 39, 0), 2);
+        b.does("delete a");
+        b.steps(41, 2);
+        Bench.is("rows more", b.store.told(7), -41);
     }
 
     private static void whatChangedMeanwhile() {
