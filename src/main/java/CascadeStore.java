@@ -840,7 +840,8 @@ public final class CascadeStore {
                 tape.refuse(MISPLACED);
             }
             if (table == NONE) {
-                tape.refuse(OUT_OF_PLACE);
+                // Of one token by code, so a 401st node comes before a name that stands alone.
+                tape.refuse(nodesLeft == 0 ? TOO_MANY : OUT_OF_PLACE);
             }
             int column = store.columnNamed(table, tape.value);
             if (column == NONE) {

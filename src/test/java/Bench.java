@@ -1,6 +1,7 @@
 /** What the tests share: a store that is spoken to in texts, and the number of answers that were not as due. */
 final class Bench {
     private static int wrong = 0;
+    private static String sentence = "";
 
     final CascadeStore store = new CascadeStore();
 
@@ -16,6 +17,11 @@ final class Bench {
             System.out.println(wrong + " answers are not as due");
             System.exit(1);
         }
+    }
+
+    /** The words of the document that the tests from here on hold it to. */
+    static void sentence(String words) {
+        sentence = "[" + words + "] ";
     }
 
     static void is(String what, long got, long want) {
@@ -185,6 +191,6 @@ final class Bench {
 
     private static void complain(String what, String got, String want) {
         wrong++;
-        System.out.println(what + ": answered " + got + ", due is " + want);
+        System.out.println(sentence + what + ": answered " + got + ", due is " + want);
     }
 }
