@@ -71,6 +71,23 @@ final class Bench {
         return all.toString();
     }
 
+    /** What an inserted SUM is worked out to. */
+    static void sum(long due, String sum) {
+        Bench bench = with("table a (x)");
+        bench.does("insert a (" + sum + ")");
+        is(sum, bench.store.value(0, 0, 0), due);
+    }
+
+    /** Whether a TEST of a row whose x is 1 is yes (1), no (0) or open (2). */
+    static int way(String test) {
+        Bench bench = with("table a (x)", "insert a (1)");
+        bench.does("delete a where " + test);
+        boolean isYes = bench.store.table(0, 1) == 0;
+        bench.say("insert a (1)");
+        bench.does("delete a where not [" + test + "]");
+        return isYes ? 1 : bench.store.table(0, 1) == 0 ? 0 : 2;
+    }
+
     void feed(String text) {
         for (int at = 0; at < text.length(); at += 8) {
             String part = text.substring(at, Math.min(at + 8, text.length()));

@@ -13,46 +13,40 @@ final class ChangesTest {
         Bench.finish();
     }
 
-    private static void sum(long due, String sum) {
-        Bench b = Bench.with("table a (x)");
-        b.does("insert a (" + sum + ")");
-        Bench.is(sum, b.store.value(0, 0, 0), due);
-    }
-
     private static void sums() {
-        sum(7, "1 + 2 * 3");
-        sum(9, "(1 + 2) * 3");
-        sum(-4, "1 - 2 - 3");
-        sum(2, "1 - (2 - 3)");
-        sum(1, "8 / 4 / 2");
-        sum(4, "8 / (4 / 2)");
-        sum(6, "8 / 4 * 3");
-        sum(-3, "- 7 / 2");
-        sum(-3, "7 / -2");
-        sum(3, "-7 / -2");
-        sum(5, "--5");
-        sum(-6, "- 2 * 3");
-        sum(0, "0 / 5");
-        sum(CascadeStore.NULL, "null");
-        sum(CascadeStore.NULL, "- null");
-        sum(CascadeStore.NULL, "1 + null");
-        sum(CascadeStore.NULL, "null * 0");
-        sum(CascadeStore.NULL, "null - 1");
-        sum(CascadeStore.NULL, "null / 0");
-        sum(CascadeStore.NULL, "1 / null");
-        sum(CascadeStore.NULL, "default");
+        Bench.sum(7, "1 + 2 * 3");
+        Bench.sum(9, "(1 + 2) * 3");
+        Bench.sum(-4, "1 - 2 - 3");
+        Bench.sum(2, "1 - (2 - 3)");
+        Bench.sum(1, "8 / 4 / 2");
+        Bench.sum(4, "8 / (4 / 2)");
+        Bench.sum(6, "8 / 4 * 3");
+        Bench.sum(-3, "- 7 / 2");
+        Bench.sum(-3, "7 / -2");
+        Bench.sum(3, "-7 / -2");
+        Bench.sum(5, "--5");
+        Bench.sum(-6, "- 2 * 3");
+        Bench.sum(0, "0 / 5");
+        Bench.sum(CascadeStore.NULL, "null");
+        Bench.sum(CascadeStore.NULL, "- null");
+        Bench.sum(CascadeStore.NULL, "1 + null");
+        Bench.sum(CascadeStore.NULL, "null * 0");
+        Bench.sum(CascadeStore.NULL, "null - 1");
+        Bench.sum(CascadeStore.NULL, "null / 0");
+        Bench.sum(CascadeStore.NULL, "1 / null");
+        Bench.sum(CascadeStore.NULL, "default");
     }
 
     private static void wraps() {
         String most = "(999999999 * 2 + 147483649)";
-        sum(Integer.MAX_VALUE, most);
-        sum(Integer.MIN_VALUE, most + " + 1");
-        sum(Integer.MIN_VALUE, "-" + most + " - 1");
-        sum(Integer.MAX_VALUE, "-" + most + " - 2");
-        sum(Integer.MIN_VALUE, "-(" + most + " + 1)");
-        sum(Integer.MIN_VALUE, "(" + most + " + 1) / -1");
-        sum(999999999 * 999999999, "999999999 * 999999999");
-        sum(1, most + " * " + most);
+        Bench.sum(Integer.MAX_VALUE, most);
+        Bench.sum(Integer.MIN_VALUE, most + " + 1");
+        Bench.sum(Integer.MIN_VALUE, "-" + most + " - 1");
+        Bench.sum(Integer.MAX_VALUE, "-" + most + " - 2");
+        Bench.sum(Integer.MIN_VALUE, "-(" + most + " + 1)");
+        Bench.sum(Integer.MIN_VALUE, "(" + most + " + 1) / -1");
+        Bench.sum(999999999 * 999999999, "999999999 * 999999999");
+        Bench.sum(1, most + " * " + most);
     }
 
     /** Of rows with x from -1 to 1 and one that has NULL, those are told that are deleted by the test. */
@@ -102,22 +96,12 @@ final class ChangesTest {
         int[] or = {0, 1, 2, 1, 1, 1, 2, 1, 2};
         int[] not = {1, 0, 2};
         for (int i = 0; i < 9; i++) {
-            way(and[i], "[" + ways[i / 3] + " and " + ways[i % 3] + "]");
-            way(or[i], "[" + ways[i / 3] + " or " + ways[i % 3] + "]");
+            Bench.is("and", Bench.way(ways[i / 3] + " and " + ways[i % 3]), and[i]);
+            Bench.is("or", Bench.way(ways[i / 3] + " or " + ways[i % 3]), or[i]);
         }
         for (int i = 0; i < 3; i++) {
-            way(not[i], "not " + ways[i]);
+            Bench.is("not", Bench.way("not " + ways[i]), not[i]);
         }
-    }
-
-    private static void way(int due, String test) {
-        Bench b = Bench.with("table a (x)", "insert a (1)");
-        b.does("delete a where " + test);
-        boolean isYes = b.store.table(0, 1) == 0;
-        b.say("insert a (1)");
-        b.does("delete a where not " + test);
-        boolean isNo = b.store.table(0, 1) == 0;
-        Bench.is(test, isYes ? 1 : isNo ? 0 : 2, due);
     }
 
     private static void inserts() {

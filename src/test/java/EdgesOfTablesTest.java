@@ -76,36 +76,30 @@ final class EdgesOfTablesTest {
         Bench.is("rules", b.store.count(1), 6);
     }
 
-    private static void sum(long due, String sum) {
-        Bench b = Bench.with("table a (x)");
-        b.does("insert a (" + sum + ")");
-        Bench.is(sum, b.store.value(0, 0, 0), due);
-    }
-
     private static void valuesWrap() {
         Bench.sentence("A VALUE is an int (sums wrap) or NULL");
-        sum(Integer.MAX_VALUE, MOST);
-        sum(Integer.MIN_VALUE, LEAST);
-        sum(Integer.MIN_VALUE, MOST + " + 1");
-        sum(Integer.MAX_VALUE, LEAST + " - 1");
-        sum(-2, MOST + " + " + MOST);
-        sum(0, LEAST + " + " + LEAST);
-        sum(-1, LEAST + " + " + MOST);
-        sum(-1, MOST + " - " + LEAST);
-        sum(Integer.MIN_VALUE, "- " + LEAST);
-        sum(Integer.MIN_VALUE, LEAST + " * - 1");
-        sum(Integer.MIN_VALUE, LEAST + " / - 1");
-        sum(Integer.MIN_VALUE + 1, "- " + MOST);
-        sum(-2, MOST + " * 2");
-        sum(0, LEAST + " * 2");
-        sum(0, LEAST + " * " + LEAST);
-        sum(1, MOST + " * " + MOST);
-        sum(Integer.MIN_VALUE, MOST + " * " + LEAST);
-        sum(808348673, "999999999 * 999999999");
-        sum(0, "65536 * 65536");
-        sum(Integer.MIN_VALUE, "32768 * 65536");
-        sum(0, MOST + " / " + LEAST);
-        sum(-1, LEAST + " / " + MOST);
+        Bench.sum(Integer.MAX_VALUE, MOST);
+        Bench.sum(Integer.MIN_VALUE, LEAST);
+        Bench.sum(Integer.MIN_VALUE, MOST + " + 1");
+        Bench.sum(Integer.MAX_VALUE, LEAST + " - 1");
+        Bench.sum(-2, MOST + " + " + MOST);
+        Bench.sum(0, LEAST + " + " + LEAST);
+        Bench.sum(-1, LEAST + " + " + MOST);
+        Bench.sum(-1, MOST + " - " + LEAST);
+        Bench.sum(Integer.MIN_VALUE, "- " + LEAST);
+        Bench.sum(Integer.MIN_VALUE, LEAST + " * - 1");
+        Bench.sum(Integer.MIN_VALUE, LEAST + " / - 1");
+        Bench.sum(Integer.MIN_VALUE + 1, "- " + MOST);
+        Bench.sum(-2, MOST + " * 2");
+        Bench.sum(0, LEAST + " * 2");
+        Bench.sum(0, LEAST + " * " + LEAST);
+        Bench.sum(1, MOST + " * " + MOST);
+        Bench.sum(Integer.MIN_VALUE, MOST + " * " + LEAST);
+        Bench.sum(808348673, "999999999 * 999999999");
+        Bench.sum(0, "65536 * 65536");
+        Bench.sum(Integer.MIN_VALUE, "32768 * 65536");
+        Bench.sum(0, MOST + " / " + LEAST);
+        Bench.sum(-1, LEAST + " / " + MOST);
     }
 
     private static void storedValuesWrap() {
@@ -212,53 +206,43 @@ final class EdgesOfTablesTest {
     private static void sumsOfNull() {
         Bench.sentence("SUMS are NULL if one of two is (- of NULL too)");
         for (String sign : new String[] {"+", "-", "*", "/"}) {
-            sum(CascadeStore.NULL, "null " + sign + " 3");
-            sum(CascadeStore.NULL, "3 " + sign + " null");
-            sum(CascadeStore.NULL, "0 " + sign + " null");
-            sum(CascadeStore.NULL, "null " + sign + " null");
-            sum(CascadeStore.NULL, "null " + sign + " 0");
+            Bench.sum(CascadeStore.NULL, "null " + sign + " 3");
+            Bench.sum(CascadeStore.NULL, "3 " + sign + " null");
+            Bench.sum(CascadeStore.NULL, "0 " + sign + " null");
+            Bench.sum(CascadeStore.NULL, "null " + sign + " null");
+            Bench.sum(CascadeStore.NULL, "null " + sign + " 0");
         }
-        sum(CascadeStore.NULL, "- null");
-        sum(CascadeStore.NULL, "1 + 2 * - (null)");
+        Bench.sum(CascadeStore.NULL, "- null");
+        Bench.sum(CascadeStore.NULL, "1 + 2 * - (null)");
     }
 
     private static void towardZero() {
         Bench.sentence("/ toward 0");
-        sum(3, "7 / 2");
-        sum(-3, "- 7 / 2");
-        sum(-3, "7 / - 2");
-        sum(3, "- 7 / - 2");
-        sum(0, "1 / 2");
-        sum(0, "- 1 / 2");
-        sum(0, "0 / - 5");
-        sum(-1, "- 5 / 5");
-        sum(-1073741824, LEAST + " / 2");
-    }
-
-    /** Whether a test is yes (1), no (0) or open (2). */
-    private static int way(String test) {
-        Bench b = Bench.with("table a (x)", "insert a (1)");
-        b.does("delete a where " + test);
-        boolean isYes = b.store.table(0, 1) == 0;
-        b.say("insert a (1)");
-        b.does("delete a where not [" + test + "]");
-        return isYes ? 1 : b.store.table(0, 1) == 0 ? 0 : 2;
+        Bench.sum(3, "7 / 2");
+        Bench.sum(-3, "- 7 / 2");
+        Bench.sum(-3, "7 / - 2");
+        Bench.sum(3, "- 7 / - 2");
+        Bench.sum(0, "1 / 2");
+        Bench.sum(0, "- 1 / 2");
+        Bench.sum(0, "0 / - 5");
+        Bench.sum(-1, "- 5 / 5");
+        Bench.sum(-1073741824, LEAST + " / 2");
     }
 
     private static void comparisonsWithNull() {
         Bench.sentence("a comparison with a NULL is open");
         for (String sign : new String[] {"=", "#", "<", "<=", ">", ">="}) {
-            Bench.is("null on the left of " + sign, way("null " + sign + " x"), 2);
-            Bench.is("null on the right of " + sign, way("x " + sign + " null"), 2);
-            Bench.is("null on both sides of " + sign, way("null " + sign + " null"), 2);
-            Bench.is("not of open " + sign, way("not x " + sign + " null"), 2);
+            Bench.is("null on the left of " + sign, Bench.way("null " + sign + " x"), 2);
+            Bench.is("null on the right of " + sign, Bench.way("x " + sign + " null"), 2);
+            Bench.is("null on both sides of " + sign, Bench.way("null " + sign + " null"), 2);
+            Bench.is("not of open " + sign, Bench.way("not x " + sign + " null"), 2);
         }
         Bench.sentence("is null, is some: yes or no");
-        Bench.is("null is null", way("null is null"), 1);
-        Bench.is("null is some", way("null is some"), 0);
-        Bench.is("0 is null", way("0 is null"), 0);
-        Bench.is("0 is some", way("0 is some"), 1);
-        Bench.is("a sum with null", way("1 + null is null"), 1);
+        Bench.is("null is null", Bench.way("null is null"), 1);
+        Bench.is("null is some", Bench.way("null is some"), 0);
+        Bench.is("0 is null", Bench.way("0 is null"), 0);
+        Bench.is("0 is some", Bench.way("0 is some"), 1);
+        Bench.is("a sum with null", Bench.way("1 + null is null"), 1);
     }
 
     private static void threeWays() {
@@ -269,13 +253,13 @@ final class EdgesOfTablesTest {
         for (int i = 0; i < 9; i++) {
             String left = ways[i / 3];
             String right = ways[i % 3];
-            Bench.is(left + " and " + right, way(left + " and " + right), and[i]);
-            Bench.is(left + " or " + right, way(left + " or " + right), or[i]);
+            Bench.is(left + " and " + right, Bench.way(left + " and " + right), and[i]);
+            Bench.is(left + " or " + right, Bench.way(left + " or " + right), or[i]);
             for (int j = 0; j < 3; j++) {
                 int both = and[i % 3 * 3 + j];
-                Bench.is("or before and", way(left + " or " + right + " and " + ways[j]), or[i / 3 * 3 + both]);
+                Bench.is("or before and", Bench.way(left + " or " + right + " and " + ways[j]), or[i / 3 * 3 + both]);
                 both = and[i];
-                Bench.is("and before or", way(left + " and " + right + " or " + ways[j]), or[both * 3 + j]);
+                Bench.is("and before or", Bench.way(left + " and " + right + " or " + ways[j]), or[both * 3 + j]);
             }
         }
     }
