@@ -840,8 +840,8 @@ public final class CascadeStore {
                 tape.refuse(MISPLACED);
             }
             if (table == NONE) {
-                // Of one token by code, so a 401st node comes before a name that stands alone.
-                tape.refuse(nodesLeft == 0 ? TOO_MANY : OUT_OF_PLACE);
+                // Such a name is no column's, so it makes no node: that 400 are there is no matter of it.
+                tape.refuse(OUT_OF_PLACE);
             }
             int column = store.columnNamed(table, tape.value);
             if (column == NONE) {

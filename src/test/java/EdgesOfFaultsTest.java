@@ -14,6 +14,7 @@ final class EdgesOfFaultsTest {
         upToTheEndOfWhatIsBehind();
         nodesAtTheirTokens();
         whatIsNoNode();
+        namesAloneAreNoNodes();
         newAndOld();
         namesAlone();
         lets();
@@ -308,6 +309,29 @@ final class EdgesOfFaultsTest {
         Bench.is("nodes with a trigger", b.store.count(4), 202);
     }
 
+    private static void namesAloneAreNoNodes() {
+        Bench.sentence("NODES are each .. NAME of a column (so a NAME alone that can't be a column's is 7 where 400 are there)");
+        Bench b = nearlyFull();
+        b.does("trigger t before update on a when new.x is some do insert b (default, 1)");
+        Bench.is("nodes at the most", b.store.count(4), 400);
+        for (String name : new String[] {"x", "zz", "a"}) {
+            b.fault(7, "trigger s before insert on a when ^" + name + " = 1 do raise 1");
+            b.fault(7, "trigger s after delete on b when [(^" + name + ") is null] do raise 1");
+            b.fault(7, "trigger s before insert on a do let x = ^" + name);
+            b.fault(7, "trigger s before update on a do let y = (^" + name + " + 1)");
+            b.fault(7, "trigger s before insert on a do insert a (^" + name + ", 1)");
+            b.fault(7, "trigger s after update on a do insert b (default, ^" + name + ")");
+        }
+        Bench.sentence("6 .. a 401st NODE (where a NAME is a column's, and where a token ahead of a NAME alone makes it)");
+        b.fault(6, "trigger s before insert on a when new.^x = 1 do raise 1");
+        b.fault(6, "trigger s before insert on a do let x = ^- zz");
+        b.fault(6, "trigger s before insert on a when ^not zz = 1 do raise 1");
+        b.fault(6, "trigger s before insert on a do insert a (^1, zz)");
+        b.fault(6, "trigger s before insert on a do update b set x = ^x");
+        b.fault(6, "trigger s before insert on a do delete b where ^y = 1");
+        Bench.is("nodes behind the faults", b.store.count(4), 400);
+    }
+
     private static void newAndOld() {
         Bench.sentence("7 new, old (at them) outside of a trigger, in one of whose EVENT there is none (insert has new alone, "
                 + "delete old alone)");
@@ -428,10 +452,9 @@ final class EdgesOfFaultsTest {
         b.fault(2, "table c (x must ^must)");
         b.does("trigger t before update on a when new.x is some do insert b (default, 1)");
         b.fault(4, "trigger s before insert on a do delete a where ^zz = 1");
+        b.fault(4, "trigger s before insert on a when new.^zz = 1 do raise 1");
         b.fault(4, "table c (x, check ^zz = 1)");
         b.fault(2, "table c (x, check ^must = 1)");
-        b.fault(6, "trigger s before insert on a when ^x = 1 do raise 1");
-        b.fault(6, "trigger s before insert on a do insert a (^x, 1)");
         b.fault(7, "insert a (^x, 1)");
         b.fault(7, "table c (x, check ^new.x = 1)");
         Bench full = Bench.with("table a (p, q, r, s, t, u, " + Bench.repeated("unique (p)", 23, ", ") + ")", "table b (x)",
